@@ -26,7 +26,8 @@ final class Model {
         }
 
         Fraction plus(Fraction other) {
-            return new Fraction(above.multiply(other.below).add(other.above.multiply(below)), below.multiply(other.below));
+            BigInteger sum = above.multiply(other.below).add(other.above.multiply(below));
+            return new Fraction(sum, below.multiply(other.below));
         }
 
         Fraction times(long a, long b) {
@@ -208,14 +209,10 @@ final class Model {
         return times;
     }
 
+    /** Each butter takes a tenth, but what is bound to 10 tenths is more than 9 of butter can take. */
     private int need(int accused) {
-        int most = Math.max(tenthsUnbound(accused, true), tenthsUnbound(accused, false));
-        return most > 9 ? DryLoaf.NONE : Math.max(most, 0);
-    }
-
-    /** No dread is 10 above 9, so 10 stands for all that 9 of butter cannot help. */
-    private int tenthsUnbound(int accused, boolean did) {
-        return tenths(accused, did, dry, 0);
+        int most = Math.max(tenths(accused, true, dry, 0), tenths(accused, false, dry, 0));
+        return most == 10 ? DryLoaf.NONE : most;
     }
 
     int about(int accused, int what) {

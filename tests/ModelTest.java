@@ -4,7 +4,9 @@ import java.util.Random;
 public final class ModelTest {
     private static final int RUNS = 150;
     private static final int CALLS = 512;
-    private static final int[] ODD = {Integer.MIN_VALUE, -65536, -2, -1, 10, 61, 126, 127, 65536 + 112, Integer.MAX_VALUE};
+    private static final int[] ODD = {
+        Integer.MIN_VALUE, -65536, -2, -1, 10, 61, 126, 127, 65536 + 112, Integer.MAX_VALUE
+    };
 
     private final Random random;
     private final DryLoaf x = new DryLoaf();

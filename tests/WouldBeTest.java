@@ -101,6 +101,11 @@ public final class WouldBeTest {
         Due.driest(Due.court("h23,h21;5"), 1, 1, 3, 4);
         // a thief: 0 and 9 at 5, 1 and 10 at 6
         Due.driest(Due.court("t91,p91;7"), 0, 5, 19, 20);
+        // the edges: only at 9 3 and 0; from 1 on 8 and 5
+        DryLoaf z = Due.court("p01,p91;5");
+        z.butter(0, 4);
+        Due.driest(z, 0, 9, 13, 20);
+        Due.driest(z, 1, 1, 13, 20);
         // 3 and 0 at 5: 6 and 30 of 50
         DryLoaf y = Due.court("p02,p03;1");
         Due.driest(y, 0, 5, 18, 25);
