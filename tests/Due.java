@@ -1,17 +1,43 @@
+import java.util.function.LongSupplier;
+
 /** What the tests share: telling wrong answers, and making courts. */
 final class Due {
     private static int wrong = 0;
     private static int asked = 0;
+    private static String heading = "";
 
     private Due() {
+    }
+
+    /** What is asked from here on is asked for this sentence of the document; a wrong answer is told with it. */
+    static void promise(int number, String sentence) {
+        heading = "promise " + number + ", \"" + sentence + "\": ";
     }
 
     static void due(String call, long got, long want) {
         asked++;
         if (got != want) {
             wrong++;
-            System.out.println(call + " answered " + got + ", due is " + want);
+            System.out.println(heading + call + " answered " + got + ", due is " + want);
         }
+    }
+
+    /** A refusal: it is the one that is due, and changes nothing that digest() tells of. */
+    static void refused(DryLoaf x, String call, long want, LongSupplier made) {
+        long before = x.digest();
+        due(call, made.getAsLong(), want);
+        due(call + " was refused, and digest() then", x.digest(), before);
+    }
+
+    /** Numbers that name none of so many accused. */
+    static int[] nobodyOf(int many) {
+        return new int[] {Integer.MIN_VALUE, -65536, -2, -1, many, many + 1, 4, 256, 65536, Integer.MAX_VALUE};
+    }
+
+    /** Numbers that lie just and far outside of these bounds. */
+    static int[] outsideOf(int least, int most) {
+        return new int[] {Integer.MIN_VALUE, least - 65536, least - 1, most + 1, least + 256, most + 65536,
+            Integer.MAX_VALUE};
     }
 
     /** Ends the test: with exit code 1 if an answer was wrong, or if none was asked for. */
